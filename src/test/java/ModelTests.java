@@ -23,7 +23,8 @@ public final class ModelTests {
             boolean action = i >= 13 && i <= 19;
             int weight = action ? random.nextInt(4) == 0 ? 60 : 20 : i >= 2 && i <= 5 || i >= 28 ? 3 : 6;
             if (i == 13) {
-                weight *= 2 + random.nextInt(4);
+                // Every fifth run writes all rows that there may be.
+                weight *= run % 5 == 0 ? 30 : 2 + random.nextInt(4);
             } else if (i == 5 || i == 30 || i == 31) {
                 weight = 1;
             } else if (i == 27) {

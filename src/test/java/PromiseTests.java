@@ -224,6 +224,7 @@ public final class PromiseTests {
         no(x, STATE, () -> x.restore(1));
         is(x::clearText, 58);
         loadThatLeavesOut();
+        loadThatForgets();
         loadThatThrows();
     }
 
@@ -255,6 +256,25 @@ public final class PromiseTests {
         is(() -> x.readerOf(0, 0), 1);
         is(() -> x.readerOf(0, 1), 1);
         is(() -> x.about(11), 1);
+    }
+
+    private static void loadThatForgets() {
+        TrimmedLog x = log("Gs00001s30000s40010s50001j00-j10+w00010w00110j21+t01");
+        x.read(0, 1);
+        is(() -> x.about(8), 1);
+        is(() -> x.about(9), 1);
+        is(() -> x.about(10), 1);
+        is(() -> x.about(11), 1);
+        Check.type(x, "Gt02");
+        is(x::load, 0);
+        no(x, STATE, x::undo);
+        int[] want = {0, 0, 0, 0, 0, 0, 0, 2, 0, 0, 0, 0};
+        for (int what = 0; what <= 11; what++) {
+            int w = what;
+            is(() -> x.about(w), want[w]);
+        }
+        is(() -> x.base(0), NONE);
+        is(() -> x.setting(5), 0);
     }
 
     private static void loadThatThrows() {
@@ -603,8 +623,17 @@ public final class PromiseTests {
         is(() -> x.about(0), 200);
         is(() -> x.rowOf(199, 1), 99);
         is(() -> x.rowOf(199, 3), 199);
-        is(x::undo, 13);
-        is(x::undo, 12);
+        is(() -> x.rowOf(199, 2), 40);
+        is(() -> x.rowOf(198, 2), 40);
+        is(() -> x.segmentOf(x.about(2) - 1, 2), 80);
+        is(() -> x.join(0, 0, false), x.about(1));
+        is(() -> x.readerOf(0, 6), x.about(3));
+        is(() -> x.read(0, 50), 200 - x.about(1));
+        is(() -> x.readerOf(0, 6), 0);
+        x.undo();
+        x.undo();
+        is(x::undo, 11);
+        is(x::undo, 10);
         is(() -> x.write(3, 33, 3), 199);
         is(() -> x.truth(3, 200, 1), 33);
     }
@@ -802,6 +831,10 @@ public final class PromiseTests {
             is(() -> x.set(w, high[w]), high[w]);
             is(() -> x.setting(w), high[w]);
         }
+        no(x, RANGE, () -> x.set(-1, -1));
+        no(x, RANGE, () -> x.set(6, -1));
+        no(x, RANGE, () -> x.set(7, -1));
+        no(x, RANGE, () -> x.set(6, 0));
         no(x, RANGE, () -> x.set(-1, 50));
         no(x, RANGE, () -> x.set(6, 50));
         // An action also if nothing becomes different.
@@ -1022,6 +1055,13 @@ public final class PromiseTests {
         is(x::slowest, NONE);
         x.hold(2, true);
         is(x::slowest, 2);
+        x.join(7, 0, true);
+        is(x::slowest, 2);
+        x.join(0, 0, true);
+        is(x::slowest, 0);
+        x.leave(2);
+        x.leave(0);
+        is(x::slowest, 7);
     }
 
     private static void truth() {
@@ -1198,6 +1238,9 @@ public final class PromiseTests {
         // Rows 1 and 2 are left; reader 0 has a gap of 1, reader 1 a hold, at the end.
         is(() -> x.about(1), 1);
         no(x, RANGE, () -> x.runScript(0, 500001));
+        no(x, RANGE, () -> x.runScript(0, 0));
+        no(x, RANGE, () -> x.runScript(-1, 0));
+        no(x, RANGE, () -> x.runScript(4, 0));
         no(x, RANGE, () -> x.runScript(4, 500001));
         no(x, RANGE, () -> x.runScript(1, -1));
         no(x, RANGE, () -> x.runScript(1, 1000000));
@@ -1231,6 +1274,12 @@ public final class PromiseTests {
             full.write(0, 0, 1);
         }
         asks(full, () -> full.runScript(2, 100001100001L), 1);
+        full.set(0, 1);
+        full.write(0, 0, 1);
+        full.set(3, 0);
+        full.ticks(1);
+        is(() -> full.about(1), 199);
+        script(full, "800199 800198 700000", "800200 700001");
     }
 
     private static void script(TrimmedLog x, String good, String bad) {
@@ -1298,13 +1347,19 @@ public final class PromiseTests {
         no(x, RANGE, () -> x.simulate(1, 0));
         no(x, RANGE, () -> x.simulate(1, -1));
         no(x, RANGE, () -> x.simulate(1, 61));
-        for (int i = 0; i < 300; i++) {
+        String[] starts = {text, "G", "Gs00001s20030s50017j01+j10+j20-j30-l3w00040w00101t09w00201t03",
+            "Gs00002s10040s20009s30100s40045s50005j00+j10-w00040w10140t01w20240w30340t01w40440w50540t01r101w60640"};
+        for (int i = 0; i < 1200; i++) {
             long seed = i == 0 ? Long.MIN_VALUE : i == 1 ? Long.MAX_VALUE : i * 982451653L * (1 - i % 2 * 2);
-            int m = 1 + i % 60;
-            TrimmedLog y = log(text);
+            int m = 1 + i / 4 % 60;
+            TrimmedLog y = log(starts[i % 4]);
             int want = turns(y, seed, m);
-            TrimmedLog z = log(text);
+            TrimmedLog z = log(starts[i % 4]);
             asks(z, () -> z.simulate(seed, m), want);
+            // What had been dropped and missed before does not count.
+            int next = turns(log(starts[i % 4]), seed, m) == want ? turns(y, seed + 1, 5) : NONE;
+            turns(z, seed, m);
+            asks(z, () -> z.simulate(seed + 1, 5), next);
         }
         // 99 for more: a reader at row 0 misses some 190 rows.
         TrimmedLog z = rows(150, 40);
@@ -1344,6 +1399,46 @@ public final class PromiseTests {
         is(() -> x.restore(0), 0);
     }
 
+    /** Rows of the same number, and counters, that became others behind the save. */
+    private static void restoreOtherTimes() {
+        TrimmedLog x = log("Gs00001s30000s40010j00+j11-w00110t01w01220t01");
+        is(() -> x.about(9), 1);
+        String saved = Check.picture(x);
+        x.save(0);
+        TrimmedLog y = log("Gs00001s40010s50001j20+j31+j40+t07w50530t05w60610w70711t01");
+        y.save(1);
+        y.restore(1);
+        is(() -> y.about(9), 0);
+        is(() -> y.about(10), 3);
+        x.read(0, 1);
+        x.hold(0, true);
+        x.ticks(1);
+        is(() -> x.about(9), 2);
+        is(x::undo, 2);
+        is(() -> x.about(9), 1);
+        x.ticks(1);
+        x.restore(0);
+        Check.due("promise 31, what is restored", Check.picture(x), saved);
+        // Other rows in the place of those that undo() or restore() took back.
+        x.write(3, 3, 3);
+        x.ticks(9);
+        x.restore(0);
+        x.ticks(4);
+        x.write(4, 44, 4);
+        is(() -> x.rowOf(2, 3), 6);
+        x.save(1);
+        x.restore(0);
+        x.write(5, 55, 5);
+        x.set(4, 4);
+        x.hold(1, false);
+        is(() -> x.rowOf(2, 3), 2);
+        x.restore(1);
+        is(() -> x.rowOf(2, 0), 4);
+        is(() -> x.rowOf(2, 1), 44);
+        is(() -> x.rowOf(2, 2), 4);
+        is(() -> x.rowOf(2, 3), 6);
+    }
+
     private static void restore() {
         TrimmedLog x = log("Gs00001s30000j00-j31+w11110w22210w33310t02l3");
         no(x, INDEX, () -> x.restore(-1));
@@ -1370,6 +1465,7 @@ public final class PromiseTests {
         Check.due("promise 31, what is restored again", Check.picture(x), saved);
         is(() -> x.join(3, 2, false), 0);
         x.restore(1);
+        restoreOtherTimes();
         // What throws forgets nothing.
         x.write(0, 0, 1);
         no(x, STATE, () -> x.restore(0));
